@@ -47,12 +47,17 @@ public final class LanguageTests {
         }
     }
 
-    private static void face() {
-        Set<String> due = new TreeSet<>(List.of(FACE));
+    private static Set<String> publicNames() {
         Set<String> names = new TreeSet<>();
         for (String one : FACE) {
             names.add(one.substring(0, one.indexOf(' ')));
         }
+        return names;
+    }
+
+    private static void face() {
+        Set<String> due = new TreeSet<>(List.of(FACE));
+        Set<String> names = publicNames();
         Set<String> got = new TreeSet<>();
         for (Method m : OddHours.class.getDeclaredMethods()) {
             if (Modifier.isPublic(m.getModifiers())) {
@@ -86,6 +91,8 @@ public final class LanguageTests {
         }
         want(fields <= 20, "rule 11: fields of " + one);
         for (Method m : one.getDeclaredMethods()) {
+            boolean isInside = one != OddHours.class;
+            want(!isInside || !publicNames().contains(m.getName()), "rule 1: " + m + " bears a public name");
             want(m.getParameterCount() <= 7, "rule 11: " + m);
             want(!Set.of("equals", "hashCode", "toString").contains(m.getName()), "rule 6: " + m);
         }

@@ -24,6 +24,7 @@ public final class ModelTests {
             wrong += new Run(seed, seen).go();
         }
         wrong += missing(seen);
+        wrong += densest();
         System.out.println(wrong == 0 ? "model: " + runs + " runs agree" : "model: " + wrong + " wrong");
         if (args.length > 2) {
             seen.forEach((k, v) -> System.out.println(k + " " + v));
@@ -44,6 +45,40 @@ public final class ModelTests {
                 wrong++;
                 System.out.println("model: no run met " + want);
             }
+        }
+        return wrong;
+    }
+
+    /** As many odd moments as there can be: years of 13 days, and 800 changes in each of five zones. */
+    private static int densest() {
+        OddHours real = new OddHours();
+        Model model = new Model();
+        for (int m = 0; m < 12; m++) {
+            real.month(m, m == 6 ? 2 : 1);
+            model.month(m, m == 6 ? 2 : 1);
+        }
+        real.leap(2, 2, 0);
+        model.leap(2, 2, 0);
+        real.week(2, 0);
+        model.week(2, 0);
+        for (int z = 0; z < 5; z++) {
+            real.zone(7 * z);
+            model.zone(7 * z);
+            for (int r = 0; r < 8; r++) {
+                real.rule(z, 99, 6000 + r % 2 * 10, 45 + 160 * r, 7 * z + r * 3);
+                model.rule(z, 99, 6000 + r % 2 * 10, 45 + 160 * r, 7 * z + r * 3);
+            }
+        }
+        int wrong = real.changes(0) == 800 && real.changes(4) == 800 ? 0 : 1;
+        int many = model.odds(0, 1900000);
+        wrong += many > 24900 && many == real.odds(0, 1900000) ? 0 : 1;
+        int i = 0;
+        for (int moment : model.odd(0, 1900000)) {
+            wrong += moment == real.odd(0, 1900000, i) ? 0 : 1;
+            i++;
+        }
+        if (wrong != 0) {
+            System.out.println("model: the densest range has " + real.odds(0, 1900000) + ", due is " + many);
         }
         return wrong;
     }

@@ -34,11 +34,13 @@ public final class PromiseTests {
         week();
         day();
         date();
+        everyDate();
         months();
         nth();
         zone();
         rule();
         ruleInOrder();
+        everyChange();
         today();
         known();
         changes();
@@ -198,6 +200,36 @@ public final class PromiseTests {
         none("6", x.date(-1, 0), x.date(36024, 0), x.date(0, -1), x.date(0, 4), x.date(LOW, 0), x.date(HIGH, 3));
     }
 
+    /** Each day of three calendars; a new object for each year, for the calls that it is good for. */
+    private static void everyDate() {
+        int[][] told = {{4, 100, 1, 30, 30}, {2, 6, 0, 1, 3}, {3, 50, 11, 25, 31}};
+        for (int[] t : told) {
+            int day = 0;
+            for (int year = 0; year < 100; year++) {
+                OddHours x = new OddHours();
+                x.leap(t[0], t[1], t[2]);
+                for (int m = 0; m < 12; m++) {
+                    x.month(m, t[3] + m % (t[4] - t[3] + 1));
+                }
+                boolean isLeap = year % t[0] == 0 && year % t[1] != 0;
+                for (int m = 0; m < 12; m++) {
+                    int many = t[3] + m % (t[4] - t[3] + 1) + (isLeap && m == t[2] ? 1 : 0);
+                    for (int d = 0; d < many; d++) {
+                        boolean isEdge = d < 2 || d > many - 3;
+                        if (isEdge) {
+                            due("5 day", x.day(year, 100 * m + d), day);
+                            due("6 year of " + day, x.date(day, 0), year);
+                            due("6 month of " + day, x.date(day, 1), m);
+                            due("6 day of month of " + day, x.date(day, 2), d);
+                        }
+                        day++;
+                    }
+                    due("5 no day", x.day(year, 100 * m + many), NONE);
+                }
+            }
+        }
+    }
+
     private static void months() {
         OddHours x = new OddHours();
         x.month(0, 31);
@@ -230,6 +262,10 @@ public final class PromiseTests {
         z.month(1, 1);
         z.month(2, 1);
         due("7 over more than a month", z.months(29, 1, 1), 30 + 29);
+        OddHours w = new OddHours();
+        w.leap(3, 100, 0);
+        due("7 behind the last, leap month 0", w.months(5, 1200, 0), NOT);
+        due("7 within the last, leap month 0", w.months(5, 1199, 0), w.day(99, 1105));
     }
 
     private static void nth() {
@@ -343,6 +379,25 @@ public final class PromiseTests {
         due("10 one that leaves the offset", y.changes(2), 2);
     }
 
+    /** 800 changes, each asked for, and the offset ahead of it and from it on. */
+    private static void everyChange() {
+        for (int from = 0; from < 800; from += 100) {
+            OddHours x = new OddHours();
+            x.zone(0);
+            for (int r = 0; r < 8; r++) {
+                x.rule(0, 99, 1000 * r, 60 * r, 10 * r - 30);
+            }
+            for (int i = from; i < from + 100; i++) {
+                int offset = 10 * (i % 8) - 30;
+                int ahead = i == 0 ? 0 : 10 * ((i + 7) % 8) - 30;
+                int moment = x.nth(i / 8 * 100 + i % 8, 0, 0) * 1440 + 60 * (i % 8) - ahead;
+                due("14 change " + i, x.change(0, i), moment);
+                due("15 from change " + i, x.offset(0, moment), offset);
+                due("15 ahead of change " + i, x.offset(0, moment - 1), i == 0 ? -9999 : ahead);
+            }
+        }
+    }
+
     private static void today() {
         OddHours x = new OddHours();
         due("11", x.today(5), 0);
@@ -378,6 +433,62 @@ public final class PromiseTests {
         due("12 may go back", x.known(5), 99999);
         due("12 rules told later are not known", x.rule(0, 0, 2, 0, 0), 4);
         due("12 rules told later are not known", x.changes(0), 1);
+        knownAtOnce();
+    }
+
+    /** Each call that asks, right behind one that tells, with nothing asked in between. */
+    private static void knownAtOnce() {
+        OddHours x = new OddHours();
+        x.zone(0);
+        x.zone(0);
+        lines(x, 0, 0, 0, 0, 1, 0, 0, 4, 1, 0);
+        due("23 ahead of a rule", x.run(0, 11000), 11000);
+        due("25 ahead of a rule", x.odds(10100, 11000), 2);
+        x.today(5);
+        x.rule(0, 0, 1, 120, 60);
+        due("25 behind a rule", x.odds(10100, 11000), 5);
+        x.known(4);
+        due("25 ahead of it", x.odds(10100, 11000), 2);
+        x.known(5);
+        due("26 on the day", x.odd(10100, 11000, 1), 10199);
+        x.zone(100);
+        due("25 behind a zone", x.odds(9900, 11000), 2 + 3 + 2 + 2);
+        x.zone(200);
+        due("25 behind another zone", x.odds(9900, 11000), 2 + 3 + 2 + 2);
+        x.zone(150);
+        due("25 behind a third zone", x.odds(9900, 11000), 2 + 3 + 2 + 2 + 2);
+        for (int i = 0; i < 2; i++) {
+            int hour = 60 * i;
+            int k = 4 + i;
+            x.known(k);
+            due("13", x.changes(0), i);
+            x.known(5 - i + 4);
+            x.known(k);
+            due("14", x.change(0, 0), i == 0 ? NONE : 10200);
+            x.known(9 - k);
+            x.known(k);
+            due("15", x.offset(0, 11000), hour);
+            x.known(9 - k);
+            due("15", x.offset(0, 11000), 60 - hour);
+            x.known(k);
+            due("16", x.wall(0, 11000), 11000 + hour);
+            x.known(9 - k);
+            due("17", x.moments(0, 10210), i);
+            x.known(k);
+            due("18", x.moment(0, 11000, 0), 11000 - hour);
+            x.known(9 - k);
+            due("23", x.run(0, 11000), 11060 - hour);
+            x.known(k);
+            due("24", x.keeps(0, 0, 60, 11000), i);
+            x.known(9 - k);
+            due("24", x.keeps(0, 0, 60, 11000), 1 - i);
+            x.known(k);
+            due("27", x.least(0, 0, 60, 11000, 10), i == 0 ? 11000 : NOT);
+            x.known(9 - k);
+            due("28", x.mend(0, 0, 60, 11000, 10), 0 + (i == 0 ? 0 : 1));
+            x.known(k);
+            due("30", x.meetings(0, 1300, 7, 7, 0), i);
+        }
     }
 
     private static void changes() {
@@ -452,6 +563,9 @@ public final class PromiseTests {
         due("18 second", x.moment(0, 20300, 1), 20300);
         due("18 no third", x.moment(0, 20300, 2), NOT);
         due("18 none", x.moment(0, 10230, 0), NOT);
+        due("18 none", x.moment(0, 10200, 0), NOT);
+        due("18 none", x.moment(0, 10259, 0), NOT);
+        due("18 last of those ahead", x.moment(0, 10199, 0), 10199);
         due("18 one", x.moment(0, 10260, 0), 10200);
         due("18 no second", x.moment(0, 10260, 1), NOT);
         due("18 far", x.moment(0, 10260, HIGH), NOT);
@@ -465,9 +579,19 @@ public final class PromiseTests {
         due("18 three", y.moment(0, 10650, 0), 10530);
         due("18 three", y.moment(0, 10650, 1), 10590);
         due("18 three", y.moment(0, 10650, 2), 10650);
+        OddHours w = new OddHours();
+        w.zone(720);
+        w.rule(0, 0, 1, 120, -720);
+        due("17 farthest back, the first wall of both", w.moments(0, 10200 - 1440), 2);
+        due("17 farthest back, ahead of that", w.moments(0, 10200 - 1441), 1);
+        due("17 farthest back, the last wall of both", w.moments(0, 10199), 2);
+        due("17 farthest back, behind that", w.moments(0, 10200), 1);
+        due("18 farthest back", w.moment(0, 10200 - 1440, 0), 10200 - 1440 - 720);
+        due("18 farthest back", w.moment(0, 10200 - 1440, 1), 10200 - 720);
+        due("18 farthest back", w.moment(0, 10199, 0), 10199 - 720);
+        due("18 farthest back", w.moment(0, 10199, 1), 10199 + 720);
         OddHours z = new OddHours();
-        z.month(0, 40);
-        for (int m = 1; m < 12; m++) {
+        for (int m = 0; m < 12; m++) {
             z.month(m, 40);
         }
         z.zone(0);
@@ -490,6 +614,10 @@ public final class PromiseTests {
         for (int[] l : good) {
             due("20 line of op " + l[0], x.line(5, l[0], l[1], l[2]), 0);
             due("19 had one", x.clear(5), 1);
+        }
+        for (int op : new int[] {0, 2, 8, 9, 10, 11}) {
+            none("20 no numbers, op " + op, x.line(5, op, 1, 0), x.line(5, op, -1, 0), x.line(5, op, 0, 1),
+                x.line(5, op, 0, -1), x.line(5, op, LOW, HIGH));
         }
         int[][] bad = {{-1, 0, 0}, {12, 0, 0}, {0, 1, 0}, {0, 0, 1}, {1, 2, 0}, {1, -1, 0}, {1, 0, 1}, {2, 1, 0},
             {2, 0, 1}, {3, -1, 0}, {3, 1440, 0}, {3, 0, 1}, {4, 2, 0}, {4, -1, 0}, {4, 0, 2}, {4, 0, -1}, {5, 10000, 0},
@@ -558,6 +686,10 @@ public final class PromiseTests {
         due("21 a span on a span", mixOf(x, 0, 0, 8, 10, 9), 4);
         due("21 a moment on a span", mixOf(x, 0, 0, 8, 0, 9), 4);
         due("21 that, turned round", mixOf(x, 0, 0, 8, 0, 11, 9), NOT);
+        due("19 whole till then", x.clear(0), 6);
+        due("21 cleared", x.mix(0), 0);
+        due("22 cleared", x.kind(0), MIXED);
+        due("23 cleared", x.run(0, 0), NO_NUMBER);
     }
 
     private static void kind() {
@@ -611,6 +743,9 @@ public final class PromiseTests {
         due("23 less, walls", x.run(0, 3000), -300);
         lines(x, 0, 0, 0, 0, 1, 1, 0, 2, 0, 0, 10, 0, 0, 6, 4, 0, 8, 0, 0);
         due("23 less, days", x.run(0, 3000), 4 * 1440);
+        lines(x, 0, 0, 0, 0, 1, 1, 0, 2, 0, 0, 0, 0, 0, 1, 2, 0, 2, 0, 0, 8, 0, 0);
+        due("23 less, days of two zones", x.run(0, 1140), 1440);
+        due("23 less, days of two zones", x.run(0, 1139), 0);
         lines(x, 0, 0, 0, 0, 10, 0, 0, 10, 0, 0, 5, 45, 0, 8, 0, 0, 9, 0, 0);
         due("23 add, a moment", x.run(0, 3000), 3045);
         lines(x, 0, 0, 0, 0, 1, 2, 0, 0, 0, 0, 10, 0, 0, 5, -45, 0, 8, 0, 0, 9, 0, 0);
@@ -629,8 +764,14 @@ public final class PromiseTests {
         due("23 last of two", x.run(1, 20300), 20300);
         due("23 one", x.run(0, 20400), 20400);
         due("23 one", x.run(1, 20400), 20400);
-        due("23 none, the first behind", x.run(0, 10230), 10200);
-        due("23 none, the last ahead", x.run(1, 10230), 10199);
+        for (int wall : new int[] {10200, 10201, 10230, 10259}) {
+            due("23 none, the first behind " + wall, x.run(0, wall), 10200);
+            due("23 none, the last ahead " + wall, x.run(1, wall), 10199);
+        }
+        for (int y = 0; y < 2; y++) {
+            due("23 ahead of none", x.run(y, 10199), 10199);
+            due("23 behind none", x.run(y, 10260), 10200);
+        }
         for (int y = 0; y < 2; y++) {
             lines(x, y, 0, 0, 0, 1, 1, 0, 4, 2, y);
         }
@@ -657,6 +798,34 @@ public final class PromiseTests {
         }
         due("23 first of three", w.run(0, 10650), 10530);
         due("23 last of three", w.run(1, 10650), 10650);
+        runTurnShort();
+    }
+
+    /** A stretch of one minute between two leaps, and the farthest one back. */
+    private static void runTurnShort() {
+        OddHours x = new OddHours();
+        x.zone(0);
+        x.zone(0);
+        x.rule(0, 0, 1, 120, 60);
+        x.rule(0, 0, 1, 181, 120);
+        due("14 a minute behind", x.change(0, 1), 10201);
+        for (int y = 0; y < 2; y++) {
+            lines(x, y, 0, 0, 0, 1, 1, 0, 4, 0, y);
+        }
+        due("23 first leap, the first behind", x.run(0, 10230), 10200);
+        due("23 first leap, the last ahead", x.run(1, 10230), 10199);
+        due("23 between", x.run(0, 10260), 10200);
+        due("23 between", x.run(1, 10260), 10200);
+        due("23 second leap, the first behind", x.run(0, 10300), 10201);
+        due("23 second leap, the last ahead", x.run(1, 10300), 10200);
+        OddHours y = new OddHours();
+        y.zone(720);
+        y.zone(0);
+        y.rule(0, 0, 1, 120, -720);
+        lines(y, 0, 0, 0, 0, 1, 1, 0, 4, 0, 0);
+        lines(y, 1, 0, 0, 0, 1, 1, 0, 4, 0, 1);
+        due("23 farthest back, first", y.run(0, 10200 - 1440), 10200 - 1440 - 720);
+        due("23 farthest back, last", y.run(1, 10200 - 1440), 10200 - 720);
     }
 
     private static void runFails() {
@@ -754,6 +923,8 @@ public final class PromiseTests {
         all("26 at an end", x, 10200, 10300, 10200, 10201, 10300);
         all("26 at an end", x, 10201, 10300, 10201, 10300);
         all("26 at an end", x, 10150, 10199, 10150, 10199);
+        all("26 at an end", x, 10150, 10200, 10150, 10199, 10200);
+        all("26 at an end", x, 10150, 10201, 10150, 10199, 10200, 10201);
         all("26 days behind it begin an hour ahead", x, 11300, 11600, 11300, 11419, 11420, 11459, 11460, 11600);
         due("25 all days", x.odds(59999000, LAST), 2);
         none("25", x.odds(-1, 5), x.odds(5, 4), x.odds(0, 2000001), x.odds(59999999, 60000000), x.odds(LOW, HIGH),
@@ -782,6 +953,11 @@ public final class PromiseTests {
         y.zone(-720);
         y.rule(0, 0, 31, 0, 720);
         all("26 day 10 never comes", y, 13000, 17000, 13000, 13679, 13680, 15119, 15120, 15121, 16559, 16560, 17000);
+        OddHours w = new OddHours();
+        w.zone(0);
+        w.rule(0, 0, 11, 30, -60);
+        all("26 day 8 begins twice, the first one counts", w, 11500, 11600, 11500, 11519, 11520, 11549, 11550, 11551,
+            11600);
         OddHours z = new OddHours();
         z.zone(0);
         int end = 36024 * 1440;
@@ -905,6 +1081,33 @@ public final class PromiseTests {
         isMended(x, 0, 0, 0, 1, 0, 0, 2, 0, 0, 6, 1, 0, 6, 1, 0, 3, 0, 0);
         lines(x, 1, 0, 0, 0, 1, 0, 0, 2, 0, 0, 5, 1440, 0, 5, 1440, 0, 5, 1440, 0);
         due("28 not by three", x.mend(1, 4, 0, 0, 0), NOT);
+        lines(x, 2, 1, 0, 0);
+        due("28 not without input", x.mend(2, 4, 0, 1000, 0), NOT);
+        mendFar();
+    }
+
+    private static void mendFar() {
+        OddHours x = new OddHours();
+        x.month(0, 31);
+        for (int z = 0; z < 5; z++) {
+            x.zone(0);
+        }
+        int last = 30 * 1440;
+        lines(x, 0, 0, 0, 0, 1, 0, 0, 4, 0, 0, 1, 0, 0, 4, 0, 0, 1, 0, 0, 4, 0, 0, 1, 0, 0, 2, 0, 0, 7, 1, 2);
+        due("28 the last line of ten", x.mend(0, 4, 0, last, 0), 1);
+        due("29 its ending", x.mended(9, 2), 0);
+        due("29 the others as they were", x.mended(7, 1), 0);
+        OddHours y = new OddHours();
+        y.month(0, 31);
+        y.zone(0);
+        y.zone(-300);
+        lines(y, 0, 0, 0, 0, 1, 0, 0, 2, 0, 0, 7, 1, 2);
+        due("27 broken at the end alone", y.least(0, 4, 0, 299, last - 299), last);
+        // In zone 1 it would be broken at the beginning alone.
+        due("28 the first odd one counts for each", y.mend(0, 4, 0, 299, last - 299), 1);
+        isMended(y, 0, 0, 0, 1, 0, 0, 2, 0, 0, 7, 1, 0);
+        due("28 a minute later it does not", y.mend(0, 4, 0, 300, last - 300), 1);
+        isMended(y, 0, 0, 0, 1, 1, 0, 2, 0, 0, 7, 1, 2);
     }
 
     private static void mended() {
