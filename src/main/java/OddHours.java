@@ -403,7 +403,8 @@ public final class OddHours {
     private int allLines() {
         int lines = 0;
         for (int i = 0; i < MOST_PROGRAMS; i++) {
-            lines += programs[i].size;
+            Program p = programs[i];
+            lines += p == null ? 0 : p.size;
         }
         return lines;
     }
@@ -1147,10 +1148,9 @@ public final class OddHours {
                 case LATER_LAW:
                     return kind == MOMENT && answer - input >= number;
                 case MINUTE_LAW:
-                    return kind == MOMENT && minuteAt(answer) == number;
+                    return kind == MOMENT && isAtMinute(answer);
                 case WEEKDAY_LAW:
-                    int weekday = weekdayAt(input);
-                    return kind == MOMENT && weekday != ABSENT && weekdayAt(answer) == weekday;
+                    return kind == MOMENT && haveSameWeekday(answer, input);
                 case SPAN_LAW:
                     return kind == SPAN && answer >= number;
                 default:
@@ -1158,17 +1158,26 @@ public final class OddHours {
             }
         }
 
-        // A moment whose wall lies on no day has no minute and no weekday there.
-        int minuteAt(int moment) {
-            Zone z = zones.at(lawZone);
-            int wall = z == null ? ABSENT : moment + z.offsetAt(moment);
-            return calendar.hasWall(wall) ? wall % DAY_MINUTES : ABSENT;
+        boolean isAtMinute(int moment) {
+            int wall = lawWall(moment);
+            return wall != ABSENT && wall % DAY_MINUTES == number;
         }
 
-        int weekdayAt(int moment) {
+        boolean haveSameWeekday(int one, int other) {
+            int wall = lawWall(one);
+            int otherWall = lawWall(other);
+            if (wall == ABSENT || otherWall == ABSENT) {
+                return false;
+            }
+            return calendar.weekdayOf(wall / DAY_MINUTES)
+                    == calendar.weekdayOf(otherWall / DAY_MINUTES);
+        }
+
+        // ABSENT for a wall that lies on no day: it has no minute and no weekday there.
+        int lawWall(int moment) {
             Zone z = zones.at(lawZone);
             int wall = z == null ? ABSENT : moment + z.offsetAt(moment);
-            return calendar.hasWall(wall) ? calendar.weekdayOf(wall / DAY_MINUTES) : ABSENT;
+            return calendar.hasWall(wall) ? wall : ABSENT;
         }
 
         int firstBroken(Program p) {
