@@ -51,21 +51,16 @@ public final class ModelTests {
 
     /** As many odd moments as there can be: years of 13 days, and 800 changes in each of five zones. */
     private static int densest() {
-        OddHours real = new OddHours();
+        OddHours real = dense();
         Model model = new Model();
         for (int m = 0; m < 12; m++) {
-            real.month(m, m == 6 ? 2 : 1);
             model.month(m, m == 6 ? 2 : 1);
         }
-        real.leap(2, 2, 0);
         model.leap(2, 2, 0);
-        real.week(2, 0);
         model.week(2, 0);
         for (int z = 0; z < 5; z++) {
-            real.zone(7 * z);
             model.zone(7 * z);
             for (int r = 0; r < 8; r++) {
-                real.rule(z, 99, 6000 + r % 2 * 10, 45 + 160 * r, 7 * z + r * 3);
                 model.rule(z, 99, 6000 + r % 2 * 10, 45 + 160 * r, 7 * z + r * 3);
             }
         }
@@ -74,6 +69,8 @@ public final class ModelTests {
         wrong += many > 24900 && many == real.odds(0, 1900000) ? 0 : 1;
         int i = 0;
         for (int moment : model.odd(0, 1900000)) {
+            // An object is good for 512 calls.
+            real = i % 400 == 0 ? dense() : real;
             wrong += moment == real.odd(0, 1900000, i) ? 0 : 1;
             i++;
         }
@@ -81,6 +78,22 @@ public final class ModelTests {
             System.out.println("model: the densest range has " + real.odds(0, 1900000) + ", due is " + many);
         }
         return wrong;
+    }
+
+    private static OddHours dense() {
+        OddHours real = new OddHours();
+        for (int m = 0; m < 12; m++) {
+            real.month(m, m == 6 ? 2 : 1);
+        }
+        real.leap(2, 2, 0);
+        real.week(2, 0);
+        for (int z = 0; z < 5; z++) {
+            real.zone(7 * z);
+            for (int r = 0; r < 8; r++) {
+                real.rule(z, 99, 6000 + r % 2 * 10, 45 + 160 * r, 7 * z + r * 3);
+            }
+        }
+        return real;
     }
 
     /** One object of each, and the calls that are drawn for both. */
@@ -91,6 +104,7 @@ public final class ModelTests {
         final OddHours real = new OddHours();
         final Model model = new Model();
         final StringBuilder log = new StringBuilder();
+        int calls;
         int wrong;
 
         Run(int seed, Map<String, Integer> seen) {
@@ -105,7 +119,8 @@ public final class ModelTests {
                 askCalendar();
             }
             tellZones();
-            for (int i = 0; i < 6; i++) {
+            // An object is good for 512 calls; a round has some 100 at most.
+            for (int i = 0; i < 6 && calls < 400; i++) {
                 tellProgram();
                 for (int k = 0; k < 5 && wrong == 0; k++) {
                     askZone();
@@ -152,6 +167,7 @@ public final class ModelTests {
         }
 
         void due(String call, int got, int want) {
+            calls++;
             log.append(' ').append(call).append('=').append(got);
             String name = call.substring(0, call.indexOf('('));
             seen.merge(name + " " + word(name, want), 1, Integer::sum);
