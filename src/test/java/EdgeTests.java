@@ -37,6 +37,7 @@ public final class EdgeTests {
         composedNumbers();
         nothingYet();
         allFull();
+        calls512();
         firstAnswerNamed();
         refusedOfEachKind();
         monthDays();
@@ -51,6 +52,7 @@ public final class EdgeTests {
         oneDayAndMinute();
         changesThatAreNothing();
         changesOfAllYears();
+        changesInOrder();
         fromThatMomentOn();
         walls();
         momentsOfAWall();
@@ -62,6 +64,7 @@ public final class EdgeTests {
         failsOfDays();
         spans();
         laws();
+        zonesOfLaws();
         lawsBeyondDays();
         oddChanges();
         oddDays();
@@ -540,6 +543,18 @@ public final class EdgeTests {
         due("20 no room in another one", y.line(3, IN, 0, 0), FULL);
     }
 
+    /** "An object is used for at most 512 calls after it has been made". */
+    private static void calls512() {
+        OddHours x = new OddHours();
+        due("call 1", x.zone(7), 0);
+        for (int i = 2; i <= 509; i++) {
+            due("call " + i, x.known(i), i == 2 ? 99999 : i - 1);
+        }
+        due("call 510", x.line(5, IN, 0, 0), 0);
+        due("call 511", x.run(5, LAST), LAST);
+        due("call 512", x.mend(5, 1, 0, 1433, 0), 0);
+    }
+
     /** "Answers, the first that a call names". */
     private static void firstAnswerNamed() {
         State s = State.FILLED;
@@ -969,6 +984,25 @@ public final class EdgeTests {
         due("10 the first day of year 1 at once with that", x.changes(0), 1);
         x.rule(0, 101, 30, 720, 0);
         due("10 the first day of year 1 a minute behind that", x.change(0, 1), 360 * 1440);
+    }
+
+    /** Eight rules of one year, told from the last wall to the first and crosswise. */
+    private static void changesInOrder() {
+        int[][] orders = {{7, 6, 5, 4, 3, 2, 1, 0}, {0, 7, 1, 6, 2, 5, 3, 4}, {3, 4, 2, 5, 1, 6, 0, 7}};
+        for (int[] order : orders) {
+            OddHours x = new OddHours();
+            x.zone(0);
+            for (int i : order) {
+                due("10", x.rule(0, 0, 1, 100 * i, 10 * i + 10) > 0 ? 1 : 0, 1);
+            }
+            due("13 all", x.changes(0), 8);
+            for (int i = 0; i < 8; i++) {
+                int moment = 7 * 1440 + 100 * i - 10 * i;
+                due("14 in order of minute", x.change(0, i), moment);
+                due("15 till then", x.offset(0, moment - 1), 10 * i);
+                due("15 from then on", x.offset(0, moment), 10 * i + 10);
+            }
+        }
     }
 
     private static void fromThatMomentOn() {
@@ -1437,6 +1471,29 @@ public final class EdgeTests {
         }
     }
 
+    /** Each zone's law by its own number, from all three calls that take one. */
+    private static void zonesOfLaws() {
+        OddHours x = new OddHours();
+        for (int z = 0; z < 5; z++) {
+            x.zone(100 * z);
+        }
+        lines(x, 0, IN, 0, 0);
+        lines(x, 1, IN, 0, 0, LATER, 1, 0);
+        for (int z = 0; z < 5; z++) {
+            for (int other = 0; other < 5; other++) {
+                int minute = 100 * other;
+                boolean isKept = z == other;
+                due("24 minute in zone " + z, x.keeps(0, 10 * z + 1, minute, 2880), isKept ? 1 : 0);
+                due("27 minute in zone " + z, x.least(0, 10 * z + 1, minute, 2880, 0), isKept ? NOT : 2880);
+                due("28 minute in zone " + z, x.mend(0, 10 * z + 1, minute, 2880, 0), isKept ? 0 : NOT);
+                int last = 1439 - 100 * other;
+                due("24 weekday in zone " + z, x.keeps(1, 10 * z + 2, 0, last), isKept ? 0 : 1);
+                due("27 weekday in zone " + z, x.least(1, 10 * z + 2, 0, last, 0), isKept ? last : NOT);
+                due("28 weekday in zone " + z, x.mend(1, 10 * z + 2, 0, last, 0), isKept ? NOT : 0);
+            }
+        }
+    }
+
     /** A moment whose wall lies on no day has no minute and no weekday (see NOTES.md). */
     private static void lawsBeyondDays() {
         OddHours x = new OddHours();
@@ -1451,6 +1508,16 @@ public final class EdgeTests {
         due("24 behind the last day, minute", x.keeps(0, 11, 0, END), 0);
         due("24 the last with a wall, weekday", x.keeps(0, 12, 0, END - 1), 1);
         due("24 behind the last day, weekday", x.keeps(0, 12, 0, END), 0);
+        lines(x, 1, IN, 0, 0, LATER, -1, 0);
+        due("24 the answer alone is ahead of day 0, weekday", x.keeps(1, 2, 0, 720), 0);
+        due("24 none is ahead of day 0, weekday", x.keeps(1, 2, 0, 721), 1);
+        lines(x, 2, IN, 0, 0, LATER, 1, 0);
+        due("24 the input alone is ahead of day 0, weekday", x.keeps(2, 2, 0, 719), 0);
+        due("24 the input alone is ahead of day 0, minute", x.keeps(2, 1, 0, 719), 1);
+        due("24 the answer alone is behind the last day, weekday", x.keeps(2, 12, 0, END - 1), 0);
+        lines(x, 3, IN, 0, 0, LATER, -1440, 0);
+        due("24 the input alone is behind the last day, minute", x.keeps(3, 11, 0, END), 1);
+        due("24 the input alone is behind the last day, weekday", x.keeps(3, 12, 0, END), 0);
         due("24 behind the last day in no zone, later", x.keeps(0, 0, 0, LAST), 1);
         due("24 behind the last day, it does not fail", x.keeps(0, 4, 0, LAST), 1);
     }
@@ -1530,6 +1597,11 @@ public final class EdgeTests {
             seven + 2, seven + 9);
         all("26 the day behind it", z, seven + 1430, seven + 1445, seven + 1430, seven + 1440, seven + 1441,
             seven + 1445);
+        OddHours w = new OddHours();
+        w.zone(0);
+        w.rule(0, 0, 1, 0, -60);
+        all("26 a day that is put off as it would begin", w, seven - 9, seven + 99, seven - 9, seven - 1, seven,
+            seven + 1, seven + 59, seven + 60, seven + 99);
     }
 
     private static void oddRanges() {
