@@ -69,6 +69,7 @@ public final class EdgeTests {
         oddChanges();
         oddDays();
         oddRanges();
+        oddEachMinute();
         leastOnes();
         mendOfLines();
         mendOrder();
@@ -1629,6 +1630,25 @@ public final class EdgeTests {
         due("26 again", x.odd(0, 2000000, 1), 1439);
         due("27 another range", x.least(0, 4, 0, 5, 5), MIXED);
         due("26 again", x.odd(0, 2000000, 2), 1440);
+    }
+
+    /** Forty changes, each three minutes behind the one ahead: each minute of 120 is an odd one. */
+    private static void oddEachMinute() {
+        OddHours x = new OddHours();
+        int first = 7 * 1440 + 599;
+        for (int z = 0; z < 5; z++) {
+            x.zone(0);
+            for (int r = 0; r < 8; r++) {
+                x.rule(z, 0, 1, 600 + 3 * (8 * z + r), 0);
+            }
+        }
+        int[] minutes = new int[120];
+        for (int i = 0; i < 120; i++) {
+            minutes[i] = first + i;
+        }
+        all("26 each minute", x, first, first + 119, minutes);
+        due("25 from ahead of them", x.odds(first - 9, first + 119), 121);
+        due("25 up to behind them", x.odds(first, first + 128), 121);
     }
 
     private static void leastOnes() {
